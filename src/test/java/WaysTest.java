@@ -144,7 +144,7 @@ public final class WaysTest {
         x.set(0, 4, 1);
         due("32: none told", x.judge(0, 0, 3, 0, 0), -1);
         due("32: right", x.judge(0, 0, 0, 0, 4), -1);
-        due("32: doesn't go on", x.judge(0, 0, 0, 0, 5), -1);
+        due("32: the same road back", x.judge(0, 0, 0, 0, 5), -1);
         due("32: doesn't go on", x.judge(0, 0, 3, 0, 5), 0);
         due("32: the other end", x.judge(0, 0, 1, 0, 5), 1);
         x.set(0, 3, 1L << 32);
