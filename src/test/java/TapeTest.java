@@ -88,7 +88,7 @@ public final class TapeTest {
 
     private static void faults() {
         String[] texts = {
-            "^", "   ^", "^;", "^roads 1 2", "^5", "^Road 0 1 miles 3", "load^", "load ^", "load ^;", "load ^x",
+            "^", "   ^", "^;", "^roads 1 2", "^5", "^Road 0 1 miles 3", "^loadz 5", "^aload 5", "load 1^z", "load ^{5", "load ^/5", "load ^:5", "load ^`5", "load^", "load ^", "load ^;", "load ^x",
             "load ^901", "load ^1000", "load ^0001", "load 900 ^5", "load 900^x", "load 5;^", "load 5; ^", "load 5;^;load 6",
             "mile ^100", "mile 99 ^load 5", "road ^16 1 miles 1", "road 0 ^0 miles 1", "road 7 ^07 miles 1",
             "road 0 ^16 miles 1", "road 0 1 ^mile 1", "road 0 1 miles ^0", "road 0 1 miles ^61", "road 0 1 miles 5 rise ^10",

@@ -244,6 +244,25 @@ public final class WaysTest {
         due("35: fallen already, the same as now", x.hang(0, 0, 0, 2), 0);
         due("35: it has fallen still", x.bridgeOf(1, 8), 1);
         due("35: only that", x.status(7), 1);
+        hangWithProps();
+    }
+
+    /** Without bridge 0 it is 50 coin of miles more, without bridge 1 it is a prop for 60. */
+    private static void hangWithProps() {
+        OneHeavyLoad x = new OneHeavyLoad();
+        x.waggon(5, 4, 0);
+        x.road(0, 1, 10, 0, 99, 0);
+        x.road(0, 1, 35, 0, 99, 0);
+        x.road(1, 2, 10, 0, 99, 0);
+        x.road(1, 2, 10, 0, 99, 0);
+        x.bridge(0, 0, 8, 99, 999);
+        x.bridge(2, 0, 8, 99, 999);
+        x.bridge(3, 0, 8, 99, 10);
+        x.prop(2, 999, 60);
+        due("35: a prop counts once, as for one load", x.hang(0, 0, 0, 2), 1);
+        x.prop(2, 999, 49);
+        due("35: miles", x.hang(0, 0, 0, 2), 0);
+        due("35: no prop stands by it", x.status(6), 0);
     }
 
     private static void fewest() {
@@ -265,6 +284,9 @@ public final class WaysTest {
         due("36: one place", x.fewest(0, 1, 1), 0);
         x.bridge(0, 0, 0, 19, 999);
         due("36: STUCK", x.fewest(0, 0, 1), -5);
+        x.part(1, 1);
+        x.part(1, 1);
+        due("36: all five", x.fewest(0, 0, 1), 31);
         due("36: BAD", x.fewest(1, 0, 1), -2);
         due("36: BAD", x.fewest(-1, 0, 1), -2);
         due("36: BAD", x.fewest(0, 16, 1), -2);
@@ -295,8 +317,12 @@ public final class WaysTest {
         due("37: BAD", x.most(1, 0, 1), -2);
         due("37: BAD", x.most(0, 0, 16), -2);
         due("37: BAD", x.most(0, -1, 1), -2);
+        x.waggon(4, 2, 12);
+        x.waggon(4, 2, 13);
+        due("37: 0", x.most(1, 2, 3), 0);
+        due("37: not even 0", x.most(2, 2, 3), -5);
         x.stand(4, 1, true);
-        due("37: not even 0", x.most(0, 2, 3), -5);
+        due("37: fallen", x.most(0, 2, 3), -5);
     }
 
     private static void frost() {
