@@ -120,7 +120,7 @@ public final class OneHeavyLoad {
     private static final int NEEDS_TOO_MUCH = 2;
     private static final int DAYS_A_PROP = 3;
     // Far above any sum of coin, so that a place without a way loses every comparison for the least.
-    private static final int NO_WAY = Integer.MAX_VALUE;
+    private static final int NO_WAY = 1000000000;
 
     private static final int SHELVES = 8;
     private static final int ROW_ROOM = 40;

@@ -124,6 +124,7 @@ public final class LanguageTest {
             CHECK.due(c + " has at most twenty fields", fields <= 20 ? 1 : 0, 1);
             for (Method m : c.getDeclaredMethods()) {
                 CHECK.due(m + " has at most seven parameters", m.getParameterCount() <= 7 ? 1 : 0, 1);
+                CHECK.due(m + " has a name of its own", FACE.contains(" " + m.getName() + "(") ? 1 : 0, 0);
             }
         }
     }
@@ -132,7 +133,8 @@ public final class LanguageTest {
         String text = Files.readString(Path.of("src/main/java/OneHeavyLoad.java"));
         String bare = text.replaceAll("(?s)/\\*.*?\\*/", "").replaceAll("//[^\n]*", "").replaceAll("\"[^\"]*\"", "\"\"");
         String[] words = {"throw", "throws", "try", "catch", "finally", "synchronized", "assert", "import", "package",
-            "static\\s*\\{", "->", "::", "\\w+Exact", "System\\.(?!arraycopy)", "protected", "volatile", "double", "float"};
+            "static\\s*\\{", "->", "::", "\\w+Exact", "(Integer|Long)\\.[A-Z]\\w*", "System\\.(?!arraycopy)", "protected", "volatile",
+            "double", "float"};
         for (String word : words) {
             String whole = Character.isLetter(word.charAt(0)) ? "\\b" + word : word;
             Matcher m = Pattern.compile(whole + (Character.isLetter(word.charAt(word.length() - 1)) ? "\\b" : "")).matcher(bare);
