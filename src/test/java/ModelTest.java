@@ -3,14 +3,16 @@ import java.util.Random;
 /** All promises: long runs of calls, drawn by a fixed seed, whose answers the Model gives too. */
 public final class ModelTest {
     private static final Check CHECK = new Check("ModelTest");
-    private static final int RUNS = 600;
+    private static final int RUNS = 1000;
     private static final int CALLS = 512;
+    private static final int LONGEST_TEXT = 80;
 
     private final OneHeavyLoad x = new OneHeavyLoad();
     private final Model m = new Model();
     private final Random random;
     private final int places;
     private final StringBuilder log = new StringBuilder();
+    private int calls = 0;
 
     private ModelTest(int seed) {
         random = new Random(seed);
@@ -21,7 +23,8 @@ public final class ModelTest {
         for (int run = 0; run < RUNS && !CHECK.hasFailed(); run++) {
             ModelTest test = new ModelTest(run);
             test.begin();
-            for (int call = 0; call < CALLS && !CHECK.hasFailed(); call++) {
+            // A text is fed by many calls, so it must begin well ahead of the 512th.
+            while (test.calls < CALLS - LONGEST_TEXT && !CHECK.hasFailed()) {
                 test.call();
             }
             if (CHECK.hasFailed()) {
@@ -32,6 +35,7 @@ public final class ModelTest {
     }
 
     private void due(String call, long got, long want) {
+        calls++;
         log.append(call).append(" -> ").append(got).append('\n');
         CHECK.due(call, got, want);
     }
