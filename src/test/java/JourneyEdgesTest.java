@@ -136,6 +136,12 @@ public final class JourneyEdgesTest {
         y.begin(0, 0, 0, 1);
         due("40: of two WAYS that cost the same, by their first ROADS", y.step(), 2);
         due("40: and on", y.step(), 4);
+        // For nothing, a WAY that leads off and back costs the same: the least number is taken as the words have it.
+        OneHeavyLoad z = free();
+        z.road(1, 2, 10, 0, 99, 0);
+        z.begin(0, 0, 1, 2);
+        due("40: of WAYS for nothing the ROAD of the least number", z.step(), 0);
+        under("off", z, 0, 2, 0, 1, 1);
     }
 
     /** For one load the miles are cheaper, for two the PROP would be. */
