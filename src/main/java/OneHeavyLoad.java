@@ -8,7 +8,6 @@ public final class OneHeavyLoad {
     private static final int STUCK = -5;
     private static final int FULL = -6;
     private static final int REFUSAL_SORTS = 5;
-    private static final int FIRST_REFUSAL_WHAT = 12;
     private static final int FAULT_BASE = -20;
 
     private static final int PLACES = 16;
@@ -41,6 +40,12 @@ public final class OneHeavyLoad {
     private static final int WAGGONS = 2;
     private static final int PARTS = 3;
     private static final int[] ROOM = {24, 16, 5, 5};
+    // What else status() tells, by its numbers.
+    private static final int STATUS_TAPE = 4;
+    private static final int STATUS_SHELVES = 5;
+    private static final int STATUS_PROPPED = 6;
+    private static final int STATUS_FALLEN = 7;
+    private static final int FIRST_REFUSAL_WHAT = 12;
 
     // Columns of a road, numbered as roadOf() has them.
     private static final int FROM = 0;
@@ -108,6 +113,13 @@ public final class OneHeavyLoad {
     private static final int WALK_PARISHES = 2;
     private static final int WALK_PLACE = 3;
     private static final int WALK_WIDTH = 4;
+
+    // What goes() tells of a road, by its numbers.
+    private static final int IF_IT_GOES = 0;
+    private static final int ROAD_COIN = 1;
+    private static final int ROAD_DAYS = 2;
+    private static final int ROAD_ENGINES = 3;
+    private static final int ROAD_PROPS = 4;
 
     // What best() answers, by its numbers.
     private static final int BEST_WAGGON = 0;
@@ -409,23 +421,23 @@ public final class OneHeavyLoad {
     }
 
     public int goes(int waggon, int parts, int road, int what) {
-        if (!isPack(waggon, parts) || !isRoad(road) || !within(what, 0, 4)) {
+        if (!isPack(waggon, parts) || !isRoad(road) || !within(what, 0, ROAD_PROPS)) {
             return refuse(BAD);
         }
         ways.survey(waggon, parts);
-        if (what == 0) {
+        if (what == IF_IT_GOES) {
             return ways.props[road] == NONE ? 0 : 1;
         }
-        if (what == 3) {
+        if (what == ROAD_ENGINES) {
             return ways.engines(road);
         }
         if (ways.props[road] == NONE) {
             return refuse(STUCK);
         }
-        if (what == 1) {
+        if (what == ROAD_COIN) {
             return ways.coinOf(road, 1);
         }
-        return what == 2 ? ways.daysOf(road) : ways.props[road];
+        return what == ROAD_DAYS ? ways.daysOf(road) : ways.props[road];
     }
 
     // ---- ways
@@ -600,13 +612,13 @@ public final class OneHeavyLoad {
             return refusals[what - FIRST_REFUSAL_WHAT];
         }
         switch (what) {
-            case 4:
+            case STATUS_TAPE:
                 return tape.size;
-            case 5:
+            case STATUS_SHELVES:
                 return shelves.countHeld();
-            case 6:
+            case STATUS_PROPPED:
                 return now.countBridges(PROPPED);
-            case 7:
+            case STATUS_FALLEN:
                 return now.countBridges(FALLEN);
             default:
                 return NONE;
